@@ -1,5 +1,6 @@
 import java.lang.reflect.InvocationTargetException;
 import java.lang.reflect.Method;
+import java.lang.reflect.Modifier;
 import java.util.Arrays;
 import java.util.Comparator;
 import java.util.List;
@@ -10,82 +11,140 @@ import java.util.List;
  */
 public final class RandomRunsTest {
     private static final int RUNS = 1500;
+    /** What is promised ends there. */
     private static final int CALLS = 512;
+    private static final int CALLS_BEFORE_THE_LAST_LOOKS = 420;
     private static final List<Method> FACE = Arrays.stream(PlainDairy.class.getDeclaredMethods())
-            .filter(method -> java.lang.reflect.Modifier.isPublic(method.getModifiers()))
+            .filter(method -> Modifier.isPublic(method.getModifiers()))
             .sorted(Comparator.comparing(Method::getName)).toList();
-    private static final List<String> WRITES = List.of("addFarm", "addCow", "pass", "addVat", "beginRound", "visit",
-            "visit", "visit", "visit", "endRound", "endRound", "close", "grade", "grade", "grade");
 
+    private final int run;
     private long seed;
     private final MilkRound dairy = new MilkRound();
     private final PlainDairy plain = new PlainDairy();
-    /** Of 8 litres of chance, how many a wrong argument, a close and a spoilt grade have. */
+    private int calls = 0;
+    private boolean underWay = false;
+    private int nextFarm = 0;
+    private int nextGrade = 0;
+    /** Runs to and beyond the limits need little milk, few refusals and few looks. */
+    private final boolean towardsLimits;
+    /** How many times in 8 an argument may be wrong, a vat is closed, and a grade is 'x'. */
     private final int wrong;
     private final int closing;
     private final int spoiling;
-    private final boolean small;
 
     private RandomRunsTest(int run) {
+        this.run = run;
         seed = run * 7919L + 17;
-        wrong = below(3);
-        closing = 1 + below(8);
-        spoiling = below(4);
-        small = below(3) == 0;
+        towardsLimits = below(2) == 0;
+        wrong = towardsLimits ? below(2) : below(4);
+        closing = below(6);
+        spoiling = below(5);
     }
 
     public static void main(String[] args) throws Exception {
         Check.due("the methods of PlainDairy", 30, FACE.size());
         for (int run = 0; run < RUNS; run++) {
-            new RandomRunsTest(run).run(run);
+            new RandomRunsTest(run).run();
         }
         Check.end();
     }
 
-    private void run(int run) throws Exception {
+    private void run() throws Exception {
         begin();
-        for (int call = 0; call < CALLS - 40; call++) {
-            String name = below(3) > 0 ? WRITES.get(below(WRITES.size())) : FACE.get(below(FACE.size())).getName();
-            if (name.equals("close") && below(8) >= closing) {
-                name = "bestVat";
+        while (calls < CALLS_BEFORE_THE_LAST_LOOKS) {
+            if (below(towardsLimits ? 16 : 3) == 0) {
+                call(FACE.get(below(FACE.size())).getName());
+            } else {
+                goOn();
             }
-            call(run, name);
         }
+        lookAtTheLast();
     }
 
     /** Without some farms, cows and vats at first, most runs would spend their calls on refusals. */
     private void begin() throws Exception {
-        for (int farm = 0; farm < 3 + below(4); farm++) {
-            compare(-1, "addFarm", small ? 10 : 10 + below(191));
-            compare(-1, "addCow", farm, small ? 5 : 5 + below(26));
+        int farms = towardsLimits ? 6 : 1 + below(6);
+        for (int farm = 0; farm < farms; farm++) {
+            compare("addFarm", towardsLimits ? 10 : 10 + below(191));
+            compare("addCow", farm, towardsLimits ? 5 : 5 + below(26));
         }
-        for (int vat = 0; vat < 1 + below(4); vat++) {
-            compare(-1, "addVat", 100 + below(801));
+        int vats = 1 + below(towardsLimits ? 2 : 4);
+        for (int vat = 0; vat < vats; vat++) {
+            compare("addVat", 100 + below(801));
         }
     }
 
-    private void call(int run, String name) throws Exception {
+    /** Mostly what a dairy would do next. */
+    private void goOn() throws Exception {
+        int chance = below(16);
+        if (chance < 2) {
+            call("pass");
+        } else if (chance < 6) {
+            compare("grade", gradeNext(), grade());
+        } else if (chance < 7) {
+            call(below(8) < closing ? "close" : "bestVat");
+        } else if (!underWay) {
+            compare("beginRound");
+        } else if (nextFarm < 6) {
+            compare("visit", nextFarm++);
+        } else {
+            call("endRound");
+        }
+    }
+
+    private void call(String name) throws Exception {
         switch (name) {
-            case "addFarm" -> compare(run, name, edge(10, 200));
-            case "addCow" -> compare(run, name, number(6), edge(5, 30));
-            case "milkOf" -> compare(run, name, number(6), edge(0, 999));
-            case "pass" -> compare(run, name, small ? edge(1, 2) : edge(1, 30));
-            case "addVat" -> compare(run, name, edge(100, 900));
-            case "inTank", "visit", "pay", "blame", "balanceBySamples" -> compare(run, name, number(6));
-            case "endRound", "inVat", "close" -> compare(run, name, number(4));
-            case "farmOf", "litres", "gradeOf", "wayOf" -> compare(run, name, number(plain.samples()));
-            case "grade" -> compare(run, name, number(plain.samples()), grade());
-            case "stateOf", "worth", "loss" -> compare(run, name, number(plain.batches()));
-            case "share" -> compare(run, name, number(plain.batches()), number(below(61)));
-            default -> compare(run, name);
+            case "addFarm" -> compare(name, edge(10, 200));
+            case "addCow" -> compare(name, number(6), edge(5, 30));
+            case "milkOf" -> compare(name, number(6), edge(0, 999));
+            case "pass" -> compare(name, edge(1, below(8) == 0 ? 30 : 2));
+            case "addVat" -> compare(name, edge(100, 900));
+            case "inTank", "visit", "pay", "blame", "balanceBySamples" -> compare(name, number(6));
+            case "endRound", "inVat", "close" -> compare(name, number(towardsLimits ? 2 : 4));
+            case "farmOf", "litres", "gradeOf", "wayOf" -> compare(name, number(plain.samples()));
+            case "grade" -> compare(name, number(plain.samples()), grade());
+            case "stateOf", "worth", "loss" -> compare(name, number(plain.batches()));
+            case "share" -> compare(name, number(plain.batches()), number(below(61)));
+            default -> compare(name);
         }
     }
 
-    private void compare(int run, String name, Object... arguments) throws Exception {
-        Method due = FACE.stream().filter(each -> each.getName().equals(name)).findFirst().orElseThrow();
-        Method got = MilkRound.class.getMethod(name, due.getParameterTypes());
-        String call = "run " + run + ": " + name + Arrays.toString(arguments);
-        Check.due(call, answer(due, plain, arguments), answer(got, dairy, arguments));
+    private void lookAtTheLast() throws Exception {
+        for (String name : List.of("day", "samples", "batches", "inTanker", "bestVat", "spoiltShare", "meanPay")) {
+            compare(name);
+        }
+        for (int farm = 0; farm < 6; farm++) {
+            compare("inTank", farm);
+            compare("pay", farm);
+            compare("blame", farm);
+            compare("balanceBySamples", farm);
+        }
+        for (int batch = 0; batch < plain.batches(); batch++) {
+            compare("stateOf", batch);
+            compare("worth", batch);
+            compare("loss", batch);
+        }
+        Check.due("run " + run + " ends within " + CALLS, true, calls <= CALLS);
+    }
+
+    private void compare(String name, Object... arguments) throws Exception {
+        calls++;
+        Method face = FACE.stream().filter(each -> each.getName().equals(name)).findFirst().orElseThrow();
+        Method same = MilkRound.class.getMethod(name, face.getParameterTypes());
+        String due = answer(face, plain, arguments);
+        String call = "run " + run + ", call " + calls + ": " + name + Arrays.toString(arguments);
+        Check.due(call, due, answer(same, dairy, arguments));
+        follow(name, !due.startsWith("throws."));
+    }
+
+    private void follow(String name, boolean done) {
+        if (name.equals("beginRound") && done) {
+            underWay = true;
+            nextFarm = below(3);
+        } else if (name.equals("endRound") && done) {
+            underWay = false;
+        }
     }
 
     private static String answer(Method method, Object of, Object... arguments) throws IllegalAccessException {
@@ -94,6 +153,17 @@ public final class RandomRunsTest {
         } catch (InvocationTargetException e) {
             return "throws." + e.getCause().getClass().getSimpleName();
         }
+    }
+
+    private int gradeNext() {
+        return below(8) == 0 || nextGrade >= plain.samples() ? number(plain.samples()) : nextGrade++;
+    }
+
+    private char grade() {
+        if (below(8) < wrong && below(3) == 0) {
+            return "-dXA ".charAt(below(5));
+        }
+        return below(16) < spoiling ? 'x' : "abc".charAt(below(3));
     }
 
     private int number(int count) {
@@ -108,13 +178,6 @@ public final class RandomRunsTest {
             return List.of(least - 1, least, most, most + 1, Integer.MAX_VALUE).get(below(5));
         }
         return least + below(most - least + 1);
-    }
-
-    private char grade() {
-        if (below(8) < wrong && below(3) == 0) {
-            return "-dXA ".charAt(below(5));
-        }
-        return below(8) < spoiling ? 'x' : "abc".charAt(below(3));
     }
 
     private int below(int bound) {

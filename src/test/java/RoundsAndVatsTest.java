@@ -5,6 +5,8 @@ public final class RoundsAndVatsTest {
         beginRound();
         visit();
         visitOfAFullTanker();
+        visitForTheLastLitre();
+        visitOfTheLastLitre();
         visitAtAHundredSamples();
         endRound();
         endRoundOfNothing();
@@ -87,6 +89,41 @@ public final class RoundsAndVatsTest {
         Check.due("10 visit(2) in the next round", 50, dairy.visit(2));
     }
 
+    private static void visitForTheLastLitre() {
+        MilkRound dairy = Dairies.withFullTanks(200, 199, 100);
+        dairy.addVat(900);
+        dairy.beginRound();
+        dairy.visit(0);
+        dairy.visit(1);
+        Check.due("10 visit(2), room for 1", 1, dairy.visit(2));
+        Check.due("10 samples() with one of 1 litre", 3, dairy.samples());
+        Check.due("10 inTanker(), full", 400, dairy.inTanker());
+        dairy.endRound(0);
+        dairy.close(0);
+        dairy.grade(2, 'x');
+        Check.due("22 stateOf(0), 1 litre is spoilt", 'x', dairy.stateOf(0));
+        dairy.grade(0, 'a');
+        dairy.grade(1, 'a');
+        Check.due("27 blame(2) for 1 litre", 399L * 40, dairy.blame(2));
+    }
+
+    private static void visitOfTheLastLitre() {
+        MilkRound dairy = Dairies.withFullTanks(200, 101, 100);
+        dairy.addVat(900);
+        dairy.addVat(100);
+        dairy.beginRound();
+        dairy.visit(0);
+        dairy.visit(2);
+        Check.due("10 visit(1), 1 litre stays", 100, dairy.visit(1));
+        dairy.endRound(0);
+        dairy.beginRound();
+        Check.due("10 visit(1), the 1 litre", 1, dairy.visit(1));
+        dairy.endRound(1);
+        Check.due("15 close(1), 1 litre", 0, dairy.close(1));
+        dairy.grade(3, 'a');
+        Check.due("31 meanPay() of 1 litre", 40d, dairy.meanPay());
+    }
+
     private static void visitAtAHundredSamples() {
         MilkRound dairy = Dairies.withFarms(6);
         dairy.addVat(900);
@@ -105,7 +142,19 @@ public final class RoundsAndVatsTest {
         Check.due("10 endRound(0)", 20, dairy.endRound(0));
         dairy.beginRound();
         Check.refused(dairy, "10 visit(0), with nothing in it", IllegalStateException.class, () -> dairy.visit(0));
-        Check.due("10 grade(99, 'a')", 99, dairy.grade(99, 'a'));
+        Check.due("19 grade(99, 'a')", 99, dairy.grade(99, 'a'));
+        dairy.close(0);
+        dairy.grade(96, 'x');
+        dairy.grade(97, 'b');
+        Check.due("19 grade(98, 'x')", 96, dairy.grade(98, 'x'));
+        Check.due("27 blame(0) in the last batch", (5L * 40 + 5 * 34) / 2, dairy.blame(0));
+        for (int sample = 0; sample < 5; sample++) {
+            dairy.grade(sample, 'c');
+        }
+        Check.due("19 grade(5, 'c')", 90, dairy.grade(5, 'c'));
+        Check.due("26 pay(0) in the first batch", 5L * 25, dairy.pay(0));
+        Check.due("23 share(16, 3)", 99, dairy.share(16, 3));
+        Check.refused(dairy, "23 share(16, 4)", java.util.NoSuchElementException.class, () -> dairy.share(16, 4));
     }
 
     private static void endRound() {

@@ -1,8 +1,15 @@
+import java.util.List;
+import java.util.NoSuchElementException;
 import java.util.Objects;
 import java.util.concurrent.Callable;
 
 /** Compares answers with those that are due, prints the wrong ones and ends the test. */
 final class Check {
+    /** Exactly these may leave a call; a subclass of one is an exception of the machine. */
+    private static final List<Class<?>> DOCUMENTED = List.of(IndexOutOfBoundsException.class,
+            IllegalArgumentException.class, IllegalStateException.class, UnsupportedOperationException.class,
+            NoSuchElementException.class, ArithmeticException.class);
+
     private static int wrong = 0;
     private static int looked = 0;
 
@@ -28,6 +35,9 @@ final class Check {
         try {
             return String.valueOf(made.call());
         } catch (Exception e) {
+            if (!DOCUMENTED.contains(e.getClass())) {
+                due("a call", "no exception of the machine", e);
+            }
             return "throws." + e.getClass().getSimpleName();
         }
     }
