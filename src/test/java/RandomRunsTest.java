@@ -1,8 +1,6 @@
-import java.lang.reflect.InvocationTargetException;
 import java.lang.reflect.Method;
 import java.lang.reflect.Modifier;
 import java.util.Arrays;
-import java.util.Comparator;
 import java.util.List;
 
 /**
@@ -14,9 +12,8 @@ public final class RandomRunsTest {
     /** What is promised ends there. */
     private static final int CALLS = 512;
     private static final int CALLS_BEFORE_THE_LAST_LOOKS = 420;
-    private static final List<Method> FACE = Arrays.stream(PlainDairy.class.getDeclaredMethods())
-            .filter(method -> Modifier.isPublic(method.getModifiers()))
-            .sorted(Comparator.comparing(Method::getName)).toList();
+    private static final List<String> FACE = Arrays.stream(PlainDairy.class.getDeclaredMethods())
+            .filter(method -> Modifier.isPublic(method.getModifiers())).map(Method::getName).sorted().toList();
 
     private final int run;
     private long seed;
@@ -42,7 +39,7 @@ public final class RandomRunsTest {
         spoiling = below(5);
     }
 
-    public static void main(String[] args) throws Exception {
+    public static void main(String[] args) {
         Check.due("the methods of PlainDairy", 30, FACE.size());
         for (int run = 0; run < RUNS; run++) {
             new RandomRunsTest(run).run();
@@ -50,11 +47,11 @@ public final class RandomRunsTest {
         Check.end();
     }
 
-    private void run() throws Exception {
+    private void run() {
         begin();
         while (calls < CALLS_BEFORE_THE_LAST_LOOKS) {
             if (below(towardsLimits ? 16 : 3) == 0) {
-                call(FACE.get(below(FACE.size())).getName());
+                call(FACE.get(below(FACE.size())));
             } else {
                 goOn();
             }
@@ -63,7 +60,7 @@ public final class RandomRunsTest {
     }
 
     /** Without some farms, cows and vats at first, most runs would spend their calls on refusals. */
-    private void begin() throws Exception {
+    private void begin() {
         int farms = towardsLimits ? 6 : 1 + below(6);
         for (int farm = 0; farm < farms; farm++) {
             compare("addFarm", towardsLimits ? 10 : 10 + below(191));
@@ -76,7 +73,7 @@ public final class RandomRunsTest {
     }
 
     /** Mostly what a dairy would do next. */
-    private void goOn() throws Exception {
+    private void goOn() {
         int chance = below(16);
         if (chance < 2) {
             call("pass");
@@ -93,7 +90,7 @@ public final class RandomRunsTest {
         }
     }
 
-    private void call(String name) throws Exception {
+    private void call(String name) {
         switch (name) {
             case "addFarm" -> compare(name, edge(10, 200));
             case "addCow" -> compare(name, number(6), edge(5, 30));
@@ -110,7 +107,7 @@ public final class RandomRunsTest {
         }
     }
 
-    private void lookAtTheLast() throws Exception {
+    private void lookAtTheLast() {
         for (String name : List.of("day", "samples", "batches", "inTanker", "bestVat", "spoiltShare", "meanPay")) {
             compare(name);
         }
@@ -128,13 +125,11 @@ public final class RandomRunsTest {
         Check.due("run " + run + " ends within " + CALLS, true, calls <= CALLS);
     }
 
-    private void compare(String name, Object... arguments) throws Exception {
+    private void compare(String name, Object... arguments) {
         calls++;
-        Method face = FACE.stream().filter(each -> each.getName().equals(name)).findFirst().orElseThrow();
-        Method same = MilkRound.class.getMethod(name, face.getParameterTypes());
-        String due = answer(face, plain, arguments);
-        String call = "run " + run + ", call " + calls + ": " + name + Arrays.toString(arguments);
-        Check.due(call, due, answer(same, dairy, arguments));
+        Call call = new Call(name, arguments);
+        String due = call.on(plain);
+        Check.due("run " + run + ", call " + calls + ": " + call, due, call.on(dairy));
         follow(name, !due.startsWith("throws."));
     }
 
@@ -144,14 +139,6 @@ public final class RandomRunsTest {
             nextFarm = below(3);
         } else if (name.equals("endRound") && done) {
             underWay = false;
-        }
-    }
-
-    private static String answer(Method method, Object of, Object... arguments) throws IllegalAccessException {
-        try {
-            return String.valueOf(method.invoke(of, arguments));
-        } catch (InvocationTargetException e) {
-            return "throws." + e.getCause().getClass().getSimpleName();
         }
     }
 

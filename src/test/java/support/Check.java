@@ -16,6 +16,14 @@ final class Check {
     private Check() {
     }
 
+    static int wrong() {
+        return wrong;
+    }
+
+    static int looked() {
+        return looked;
+    }
+
     static void due(String call, Object due, Object got) {
         looked++;
         if (!Objects.equals(due, got)) {
@@ -24,11 +32,35 @@ final class Check {
         }
     }
 
+    static void noIndex(MilkRound dairy, String call, Callable<?> made) {
+        refused(dairy, call, IndexOutOfBoundsException.class, made);
+    }
+
+    static void badArgument(MilkRound dairy, String call, Callable<?> made) {
+        refused(dairy, call, IllegalArgumentException.class, made);
+    }
+
+    static void badState(MilkRound dairy, String call, Callable<?> made) {
+        refused(dairy, call, IllegalStateException.class, made);
+    }
+
+    static void unsupported(MilkRound dairy, String call, Callable<?> made) {
+        refused(dairy, call, UnsupportedOperationException.class, made);
+    }
+
+    static void noElement(MilkRound dairy, String call, Callable<?> made) {
+        refused(dairy, call, NoSuchElementException.class, made);
+    }
+
+    static void arithmetic(MilkRound dairy, String call, Callable<?> made) {
+        refused(dairy, call, ArithmeticException.class, made);
+    }
+
     /** The call throws exactly this exception, no subclass of it, and leaves the dairy as it was. */
-    static void refused(MilkRound dairy, String call, Class<? extends RuntimeException> due, Callable<?> made) {
-        String before = Looks.at(dairy);
+    private static void refused(MilkRound dairy, String call, Class<?> due, Callable<?> made) {
+        String before = Looks.brief(dairy);
         due(call, "throws." + due.getSimpleName(), outcome(made));
-        due("all looks after " + call, before, Looks.at(dairy));
+        due("what is seen after " + call, before, Looks.brief(dairy));
     }
 
     static String outcome(Callable<?> made) {
