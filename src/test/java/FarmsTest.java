@@ -366,6 +366,7 @@ public final class FarmsTest {
         dairy.visit(0);
         Check.due("pass(1), day 4, with an emptied tank", 5, dairy.pass(1));
         Check.due("inTank(0) after the day 4", 19, dairy.inTank(0));
+        Check.due("pass(3), the days 5 to 7, room for 21", 20 + 19 + 18 - 21 + 6 + 5 + 5, dairy.pass(3));
         MilkRound without = new MilkRound();
         Check.due("pass(30) without farms", 0, without.pass(30));
     }

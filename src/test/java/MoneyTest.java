@@ -349,6 +349,10 @@ public final class MoneyTest {
         dairy.close(0);
         Check.due("balanceBySamples(0), in a batch", -50L * 40, dairy.balanceBySamples(0));
         Check.due("balanceBySamples(1), in a batch", 0L, dairy.balanceBySamples(1));
+        Dairies.nextBatch(dairy, 2);
+        Dairies.grade(dairy, 2, "ab");
+        Check.due("balanceBySamples(0), of two batches", -50L * 40 + 30 * 40, dairy.balanceBySamples(0));
+        Check.due("balanceBySamples(1), of two batches", 50L * 34, dairy.balanceBySamples(1));
     }
 
     @Sentence(of = "Promise 28", says = "Returns its pay minus its blame, in cents.")
@@ -483,6 +487,13 @@ public final class MoneyTest {
         Check.due("spoiltShare(), spoilt in the vat", 0f, dairy.spoiltShare());
         dairy.close(0);
         Check.due("spoiltShare(), spoilt in a batch", 1f, dairy.spoiltShare());
+        MilkRound good = Dairies.withBatch(30, 50);
+        good.pass(30);
+        Dairies.round(good, 0, 0);
+        good.beginRound();
+        good.visit(1);
+        Dairies.grade(good, 0, "aaxx");
+        Check.due("spoiltShare(), spoilt in the vat 0 and in the tanker beside the batch 0", 0f, good.spoiltShare());
     }
 
     private static final String SPOILT_SHARE =

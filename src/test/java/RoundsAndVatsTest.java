@@ -16,18 +16,21 @@ public final class RoundsAndVatsTest {
         dairy.beginRound();
         dairy.visit(0);
         dairy.addVat(200);
-        Check.due("endRound(1) into a vat that was added in the round", 100, dairy.endRound(1));
+        Check.due("inVat(1), added in the round", 0, dairy.inVat(1));
+        Check.due("inTanker(), when it is added", 100, dairy.inTanker());
+        Check.due("endRound(1)", 100, dairy.endRound(1));
     }
 
     @Sentence(of = "Promise 8", says = "`room`: how many litres it holds, 100 to 900")
     private static void leastRoomOfAVat() {
-        for (int room : new int[] {100, 101, 127, 128, 200}) {
-            MilkRound dairy = Dairies.withFullTanks(room, 10);
+        for (int room : new int[] {100, 101, 127, 128, 199}) {
+            MilkRound dairy = Dairies.withFullTanks(room, room + 1);
+            dairy.addVat(room);
             dairy.addVat(room);
             Check.due("endRound(0), just room for " + room, room, Dairies.round(dairy, 0, 0));
             dairy.beginRound();
             dairy.visit(1);
-            Check.unsupported(dairy, "endRound(0), no more than " + room, () -> dairy.endRound(0));
+            Check.unsupported(dairy, "endRound(1), no room for 1 more than " + room, () -> dairy.endRound(1));
         }
     }
 

@@ -166,6 +166,9 @@ public final class SamplesAndBatchesTest {
         Check.due("worth(0)", 60 * 25, dairy.worth(0));
         Check.due("worth(1)", 50 * 40, dairy.worth(1));
         Check.due("worth(2)", 40 * 34, dairy.worth(2));
+        Check.due("pay(0)", 60L * 25, dairy.pay(0));
+        Check.due("pay(1)", 40L * 34, dairy.pay(1));
+        Check.due("pay(2)", 50L * 40, dairy.pay(2));
     }
 
     @Sentence(of = "Promise 19", says = "`grade`: the grade, 'a', 'b', 'c' or 'x'")
@@ -367,6 +370,22 @@ public final class SamplesAndBatchesTest {
         Dairies.grade(dairy, 0, "ac");
         Check.due("stateOf(0) with its grades", 'g', dairy.stateOf(0));
         Check.due("stateOf(1) beside it", 'x', dairy.stateOf(1));
+    }
+
+    @Sentence(of = "Promise 22", says = "Returns the state of a batch.")
+    private static void stateBesideSamplesWithoutGrades() {
+        MilkRound dairy = dairy();
+        Dairies.round(dairy, 0, 0);
+        dairy.close(0);
+        Dairies.round(dairy, 0, 1);
+        dairy.close(0);
+        Dairies.round(dairy, 0, 2);
+        dairy.beginRound();
+        dairy.visit(3);
+        Check.due("stateOf(0)", 'w', dairy.stateOf(0));
+        dairy.grade(0, 'a');
+        Check.due("stateOf(0) beside a batch, a vat and a tanker without grades", 'g', dairy.stateOf(0));
+        Check.due("stateOf(1)", 'w', dairy.stateOf(1));
     }
 
     @Sentence(of = "Promise 22", says = STATES)

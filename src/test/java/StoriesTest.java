@@ -16,20 +16,34 @@ public final class StoriesTest {
         return List.of(wholeStory(), sharesStory(), samplesStory(), batchesStory(), daysStory());
     }
 
+    /** It ends with rounds that just fill each vat, so that a vat's and a farm's room are seen too. */
     private static Story wholeStory() {
         Story story = new Story(MilkRound::new, Looks::all);
         story.then("addFarm", 60).then("addCow", 0, 20).then("addFarm", 200).then("addCow", 1, 30);
         story.then("addCow", 1, 30).then("addCow", 1, 30).then("addCow", 1, 30).then("addCow", 1, 29);
-        story.then("addFarm", 30).then("addVat", 100).then("addVat", 400).then("pass", 3);
+        story.then("addFarm", 30).then("addVat", 260).then("addVat", 290).then("pass", 3);
         story.then("beginRound").then("visit", 0).then("visit", 1).then("visit", 2).then("addCow", 2, 5);
-        story.then("pass", 1).then("endRound", 1).then("grade", 1, 'x');
-        story.then("addFarm", 10).then("addFarm", 11).then("addFarm", 12).then("addVat", 101).then("addVat", 900);
+        story.then("visit", 0).then("visit", 1).then("visit", 2).then("pass", 1).then("endRound", 1);
+        story.then("grade", 1, 'x').then("addFarm", 10).then("addFarm", 11).then("addFarm", 12);
+        story.then("addVat", 230).then("addVat", 200);
         story.then("beginRound").then("visit", 2).then("visit", 0).then("endRound", 0).then("close", 1);
-        story.then("grade", 0, 'a').then("pass", 30).then("beginRound").then("visit", 1).then("visit", 2);
+        story.then("grade", 0, 'a').then("pass", 30).then("beginRound").then("visit", 0).then("visit", 2);
         story.then("endRound", 3).then("close", 0).then("grade", 2, 'b').then("grade", 3, 'c');
         story.then("close", 3).then("grade", 5, 'x').then("grade", 4, 'a');
-        story.then("beginRound").then("visit", 0).then("endRound", 2).then("beginRound").then("visit", 3);
-        return story.then("endRound", 2).then("addCow", 2, 30).then("addCow", 3, 30).then("pass", 30);
+        story.then("addCow", 3, 30).then("addCow", 4, 30).then("addCow", 5, 30);
+        filled(story, 0, 0, 1);
+        filled(story, 1, 0, 1, 2);
+        filled(story, 2, 1, 2);
+        filled(story, 3, 1);
+        return story.then("pass", 30);
+    }
+
+    private static void filled(Story story, int vat, int... farms) {
+        story.then("pass", 30).then("beginRound");
+        for (int farm : farms) {
+            story.then("visit", farm);
+        }
+        story.then("endRound", vat);
     }
 
     private static Story sharesStory() {
@@ -181,7 +195,7 @@ public final class StoriesTest {
             calls.add(new Call(name));
         }
         addAll(calls, "addFarm", 9, 201, 50);
-        addAll(calls, "addVat", 99, 901, 200);
+        addAll(calls, "addVat", 99, 901, 100);
         addAll(calls, "pass", 0, 31, 1, 10, 30);
         for (String name : List.of("visit", "endRound", "close")) {
             addAll(calls, name, -1, 0, 1, 2, 3, 4, 5, 6);
