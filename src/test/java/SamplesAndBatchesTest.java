@@ -123,6 +123,16 @@ public final class SamplesAndBatchesTest {
         Check.due("litres(3), the rest", 99, dairy.litres(3));
     }
 
+    @Sentence(of = "Promise 18", says = "Returns the litres.")
+    private static void eachNumberOfLitres() {
+        for (int litres = 10; litres <= 200; litres++) {
+            MilkRound dairy = Dairies.withFullTanks(litres);
+            dairy.beginRound();
+            dairy.visit(0);
+            Check.due("litres(0)", litres, dairy.litres(0));
+        }
+    }
+
     @Sentence(of = "Promise 18", says = "Throws `IndexOutOfBoundsException` if there is no such sample")
     private static void litresOfNoSample() {
         MilkRound dairy = dairy();
