@@ -605,7 +605,7 @@ public final class MilkRound {
         }
 
         private void settleBlame(int batch, int spoilt) {
-            int lost = lossOf(batch);
+            int lost = valueOf(batch);
             int left = lost;
             for (int sample = 0; sample < count; sample++) {
                 if (isSpoiltIn(sample, batch)) {
